@@ -32,6 +32,10 @@ final class Check {
         }
     }
 
+    static long bit(boolean is) {
+        return is ? 1 : 0;
+    }
+
     /** The call has to throw an exception of exactly this kind. */
     void thrown(String what, Class<? extends RuntimeException> kind, Call call) {
         compared++;
