@@ -2038,6 +2038,7 @@ public final class Operadry {
         private final Whole part = new Whole();
         private final Whole product = new Whole();
         private int count = 1;
+        private boolean isScaled;
 
         private static Whole[] makeWholes(int many) {
             Whole[] wholes = new Whole[Math.max(many, 0)];
@@ -2054,12 +2055,14 @@ public final class Operadry {
         int restart(int many) {
             int former = count;
             count = many;
+            isScaled = false;
             Arrays.fill(stepUppers, 0);
             Arrays.fill(lastUppers, 0);
             return former;
         }
 
         int tellStep(int from, int to, int upper, int lower) {
+            isScaled = false;
             if (has(from) && has(to)) {
                 stepUppers[from * MOST_STAGES + to] = upper;
                 stepLowers[from * MOST_STAGES + to] = lower;
@@ -2068,6 +2071,7 @@ public final class Operadry {
         }
 
         int tellLast(int stage, int upper, int lower) {
+            isScaled = false;
             if (has(stage)) {
                 lastUppers[stage] = upper;
                 lastLowers[stage] = lower;
@@ -2146,6 +2150,10 @@ public final class Operadry {
 
         /** Brings the fractions a, and the fractions b, to a common lower number each. */
         private void scale() {
+            if (isScaled) {
+                return;
+            }
+            isScaled = true;
             gatherPowers(stepUppers, stepLowers, stepPowers);
             gatherPowers(lastUppers, lastLowers, lastPowers);
             multiplyPowers(stepPowers, stepLower);
