@@ -19,6 +19,7 @@ public final class SumTests {
         tests.rightSidesStay();
         tests.reducing();
         tests.reducingToMany();
+        tests.reducingToThousands();
         tests.reducingWide();
         tests.firstPlaceFirst();
         tests.nested();
@@ -261,6 +262,39 @@ public final class SumTests {
             model.type(digits.charAt(i) - '0');
         }
         return model.tree();
+    }
+
+    /** Four pairs of operations come to each pair of three other ones: 3 to the 8th trees. */
+    private void reducingToThousands() {
+        Operadry x = withPairs(4);
+        int right = x.sum();
+        for (int pair = 0; pair < 9; pair++) {
+            x.add(right, Check.tree(x, pair / 3 + "9" + pair % 3 + "99"), pair + 1);
+        }
+        x.rule(Check.tree(x, "39399"), right);
+        int sum = Check.sum(x, "2 39393939393939399");
+        check.due("16: thousands", x.reduce(sum), 6561);
+        check.due("12: thousands", x.terms(sum), 6561);
+        for (int term = 0; term < 6561; term += 656) {
+            StringBuilder row = new StringBuilder();
+            for (int place = 0; place < 17; place++) {
+                row.append(x.termSign(sum, term, place));
+            }
+            long amount = 2;
+            StringBuilder want = new StringBuilder("9");
+            int rest = 6560 - term;
+            for (int pair = 0; pair < 4; pair++) {
+                want.insert(0, rest / 3 % 3 + "9" + rest % 3 + "9");
+                amount *= rest % 9 + 1;
+                rest /= 9;
+            }
+            check.dueText("14: of thousands, " + term, row.toString(), want.toString());
+            check.due("13: of thousands, " + term, x.amount(sum, term), amount);
+        }
+        check.thrown("13: behind thousands", NoSuchElementException.class,
+                () -> x.amount(sum, 6561));
+        check.due("16: thousands again", x.reduce(sum), 6561);
+        check.due("16: few after them", x.reduce(right), 9);
     }
 
     /** A wide operation comes to be two narrow ones, up to 16 of these in one tree. */
