@@ -63,7 +63,6 @@ public final class Operadry {
     private int wordCount;
     private final int[] ways;
 
-    /** Makes a foundry without operations, with a method of one stage. */
     public Operadry() {
         operations = new Operations();
         typed = new Row();
@@ -80,7 +79,6 @@ public final class Operadry {
         ways = new int[MOST_LETTERS + 1];
     }
 
-    /** Adds an operation with 2 or 3 inputs. */
     public int operation(int inputs) throws IllegalArgumentException, IllegalStateException {
         if (inputs < LEAST_WIDTH || inputs > MOST_WIDTH) {
             throw new IllegalArgumentException("an operation has 2 or 3 inputs");
@@ -92,7 +90,6 @@ public final class Operadry {
         return number;
     }
 
-    /** Types a sign. */
     public int type(int sign) throws IllegalArgumentException, IllegalStateException {
         if (sign < 0 || sign > INPUT) {
             throw new IllegalArgumentException("a sign is 0 to 9");
@@ -104,14 +101,12 @@ public final class Operadry {
         return typed.length();
     }
 
-    /** Wipes the typed signs. */
     public int wipe() {
         int many = typed.length();
         typed.empty();
         return many;
     }
 
-    /** Keeps the typed row as a tree. */
     public int tree() throws UnsupportedOperationException, IllegalStateException {
         if (!operations.isTree(typed) || typed.operators() > MOST_IN_TREE) {
             throw new UnsupportedOperationException("the row is no tree that can be kept");
@@ -123,7 +118,6 @@ public final class Operadry {
         return number;
     }
 
-    /** Tells how many inputs a tree has. */
     public int inputs(int tree) throws IndexOutOfBoundsException {
         Row row = treeRow(tree);
         if (row == null) {
@@ -132,7 +126,6 @@ public final class Operadry {
         return row.leaves();
     }
 
-    /** Tells a sign of the row of a tree. */
     public int signAt(int tree, int place) throws IndexOutOfBoundsException, NoSuchElementException {
         Row row = treeRow(tree);
         if (row == null) {
@@ -144,7 +137,6 @@ public final class Operadry {
         return row.at(place);
     }
 
-    /** Puts a tree in place of an input of another one, and keeps what comes. */
     public int compose(int tree, int input, int other)
             throws IndexOutOfBoundsException, NoSuchElementException, UnsupportedOperationException,
             IllegalStateException {
@@ -171,7 +163,6 @@ public final class Operadry {
         return number;
     }
 
-    /** Compares two trees. */
     public int compare(int one, int other) throws IndexOutOfBoundsException {
         Row first = treeRow(one);
         Row second = treeRow(other);
@@ -191,7 +182,6 @@ public final class Operadry {
         return firstCode < secondCode ? -1 : 1;
     }
 
-    /** Makes a sum without terms. */
     public int sum() throws IllegalStateException {
         if (totalCount >= MOST_SUMS) {
             throw new IllegalStateException("there are 10 sums");
@@ -201,7 +191,6 @@ public final class Operadry {
         return totalCount - 1;
     }
 
-    /** Adds an amount of a tree to a sum. */
     public long add(int sum, int tree, int amount)
             throws IndexOutOfBoundsException, IllegalArgumentException, UnsupportedOperationException,
             ArithmeticException {
@@ -226,7 +215,6 @@ public final class Operadry {
         return old + amount;
     }
 
-    /** Tells how many terms a sum has. */
     public int terms(int sum) throws IndexOutOfBoundsException {
         Total total = totalAt(sum);
         if (total == null) {
@@ -235,7 +223,6 @@ public final class Operadry {
         return total.size();
     }
 
-    /** Tells the amount of a term. */
     public long amount(int sum, int term) throws IndexOutOfBoundsException, NoSuchElementException {
         Total total = totalAt(sum);
         if (total == null) {
@@ -247,7 +234,6 @@ public final class Operadry {
         return total.amountAt(term);
     }
 
-    /** Tells a sign of the row of the tree of a term. */
     public int termSign(int sum, int term, int place)
             throws IndexOutOfBoundsException, NoSuchElementException {
         Total total = totalAt(sum);
@@ -264,7 +250,6 @@ public final class Operadry {
         return spelling.at(place);
     }
 
-    /** Tells a rule. */
     public int rule(int tree, int sum)
             throws IndexOutOfBoundsException, UnsupportedOperationException, IllegalStateException {
         Row left = treeRow(tree);
@@ -286,7 +271,6 @@ public final class Operadry {
         return rules.count();
     }
 
-    /** Reduces a sum by the rules. */
     public int reduce(int sum) throws IndexOutOfBoundsException, ArithmeticException {
         Total total = totalAt(sum);
         if (total == null) {
@@ -299,7 +283,6 @@ public final class Operadry {
         return totals[sum].size();
     }
 
-    /** Tells whether a tree is normal. */
     public boolean isNormal(int tree) throws IndexOutOfBoundsException {
         Row row = treeRow(tree);
         if (row == null) {
@@ -308,7 +291,6 @@ public final class Operadry {
         return rewriter.meets(row) == 0;
     }
 
-    /** Counts the normal trees. */
     public long normals(int inputs) throws IllegalArgumentException {
         if (inputs < 1 || inputs > MOST_COUNTED) {
             throw new IllegalArgumentException("inputs are 1 to 10");
@@ -316,7 +298,6 @@ public final class Operadry {
         return census.count(Census.NORMAL, inputs);
     }
 
-    /** Counts the dual trees. */
     public long duals(int inputs) throws IllegalArgumentException {
         if (inputs < 1 || inputs > MOST_COUNTED) {
             throw new IllegalArgumentException("inputs are 1 to 10");
@@ -324,7 +305,6 @@ public final class Operadry {
         return census.count(Census.DUAL, inputs);
     }
 
-    /** Tells whether the rules are confluent. */
     public boolean isConfluent() throws ArithmeticException {
         boolean isSame = true;
         for (int one = 0; one < rules.count(); one++) {
@@ -340,7 +320,6 @@ public final class Operadry {
         return isSame;
     }
 
-    /** Tells whether the series of normal and of dual trees are inverse. */
     public boolean isInverse(int inputs)
             throws IllegalArgumentException, UnsupportedOperationException {
         if (inputs < 1 || inputs > MOST_INVERTED) {
@@ -352,7 +331,6 @@ public final class Operadry {
         return census.isInverseUpTo(inputs);
     }
 
-    /** Keeps the typed row as a shrub. */
     public int shrub() throws UnsupportedOperationException, IllegalStateException {
         if (!sketch.read(typed)) {
             throw new UnsupportedOperationException("the row is no shrub");
@@ -373,7 +351,6 @@ public final class Operadry {
         return shrubCount - 1;
     }
 
-    /** Tells how many knots a shrub has. */
     public int knots(int shrub) throws IndexOutOfBoundsException {
         Shrub asked = shrubAt(shrub);
         if (asked == null) {
@@ -382,7 +359,6 @@ public final class Operadry {
         return asked.size();
     }
 
-    /** Tells the symmetry of a shrub. */
     public int symmetry(int shrub) throws IndexOutOfBoundsException {
         Shrub asked = shrubAt(shrub);
         if (asked == null) {
@@ -391,7 +367,6 @@ public final class Operadry {
         return asked.countSymmetry();
     }
 
-    /** Tells the density of a shrub. */
     public int density(int shrub) throws IndexOutOfBoundsException {
         Shrub asked = shrubAt(shrub);
         if (asked == null) {
@@ -400,7 +375,6 @@ public final class Operadry {
         return asked.countDensity();
     }
 
-    /** Tells the growths of a shrub. */
     public int growths(int shrub) throws IndexOutOfBoundsException {
         Shrub asked = shrubAt(shrub);
         if (asked == null) {
@@ -409,7 +383,6 @@ public final class Operadry {
         return asked.countGrowths();
     }
 
-    /** Tells how many cuts of a shrub leave a trunk. */
     public int cuts(int shrub, int trunk) throws IndexOutOfBoundsException {
         Shrub whole = shrubAt(shrub);
         Shrub part = shrubAt(trunk);
@@ -419,7 +392,6 @@ public final class Operadry {
         return whole.countTrunks(part);
     }
 
-    /** Tells on how many knots of a shrub another one can be grafted so that a third one comes. */
     public int grafts(int shrub, int graft, int result) throws IndexOutOfBoundsException {
         Shrub base = shrubAt(shrub);
         Shrub top = shrubAt(graft);
@@ -441,7 +413,6 @@ public final class Operadry {
         return many;
     }
 
-    /** Makes the method one of so many stages, all fractions being 0. */
     public int stages(int stages) throws IllegalArgumentException {
         if (stages < 1 || stages > MOST_STAGES) {
             throw new IllegalArgumentException("stages are 1 to 4");
@@ -449,7 +420,6 @@ public final class Operadry {
         return stepper.restart(stages);
     }
 
-    /** Tells a fraction a of the method. */
     public int step(int from, int to, int upper, int lower)
             throws IndexOutOfBoundsException, IllegalArgumentException {
         if (!stepper.has(from) || !stepper.has(to)) {
@@ -461,7 +431,6 @@ public final class Operadry {
         return stepper.tellStep(from, to, upper, lower);
     }
 
-    /** Tells a fraction b of the method. */
     public int last(int stage, int upper, int lower)
             throws IndexOutOfBoundsException, IllegalArgumentException {
         if (!stepper.has(stage)) {
@@ -473,7 +442,6 @@ public final class Operadry {
         return stepper.tellLast(stage, upper, lower);
     }
 
-    /** Tells a number of the weight of a shrub, in lowest terms. */
     public long weight(int shrub, boolean isUpper)
             throws IndexOutOfBoundsException, ArithmeticException {
         Shrub asked = shrubAt(shrub);
@@ -494,12 +462,10 @@ public final class Operadry {
         return lower;
     }
 
-    /** Tells the order of the method, 0 to 5. */
     public int order() {
         return stepper.countOrder(sketch);
     }
 
-    /** Keeps the typed row as a word. */
     public int word() throws UnsupportedOperationException, IllegalStateException {
         if (!Letters.isWord(typed)) {
             throw new UnsupportedOperationException("the row is no word");
@@ -517,7 +483,6 @@ public final class Operadry {
         return wordCount - 1;
     }
 
-    /** Tells how many factors a word has. */
     public int factors(int word) throws IndexOutOfBoundsException {
         Row row = wordRow(word);
         if (row == null) {
@@ -526,7 +491,6 @@ public final class Operadry {
         return Letters.countFactors(row);
     }
 
-    /** Tells the length of a factor. */
     public int factor(int word, int index) throws IndexOutOfBoundsException, NoSuchElementException {
         Row row = wordRow(word);
         if (row == null) {
@@ -538,7 +502,6 @@ public final class Operadry {
         return Letters.factorLength(row, index);
     }
 
-    /** Tells the amount of a word in the bracket of another one. */
     public int bracketed(int word, int other)
             throws IndexOutOfBoundsException, UnsupportedOperationException {
         Row bracket = wordRow(word);
@@ -555,7 +518,6 @@ public final class Operadry {
         return Letters.bracketAmount(bracket, asked);
     }
 
-    /** Tells in how many ways a word is a shuffle of two words. */
     public int shuffles(int one, int other, int word) throws IndexOutOfBoundsException {
         Row first = wordRow(one);
         Row second = wordRow(other);
@@ -566,7 +528,6 @@ public final class Operadry {
         return Letters.countShuffles(first, second, asked, ways);
     }
 
-    /** Counts the Lyndon words. */
     public long lyndons(int letters, int length) throws IllegalArgumentException {
         if (letters < 1 || letters > MOST_ALPHABET || length < 1 || length > MOST_LYNDON) {
             throw new IllegalArgumentException("letters are 1 to 9, the length 1 to 12");
@@ -574,7 +535,6 @@ public final class Operadry {
         return Letters.countLyndon(letters, length);
     }
 
-    /** Counts the faces of a dimension. */
     public long faces(int inputs, int dimension) throws IllegalArgumentException {
         if (inputs < 2 || inputs > MOST_FACED) {
             throw new IllegalArgumentException("inputs are 2 to 12");
@@ -587,7 +547,6 @@ public final class Operadry {
                 / nodes;
     }
 
-    /** Tells a sum over all sums. */
     public long checksum() {
         long check = 7;
         for (int sum = 0; sum < totalCount; sum++) {
@@ -603,7 +562,6 @@ public final class Operadry {
         return check;
     }
 
-    /** Tells the share of normal trees. */
     public float normalShare(int inputs) throws IllegalArgumentException, ArithmeticException {
         if (inputs < 1 || inputs > MOST_COUNTED) {
             throw new IllegalArgumentException("inputs are 1 to 10");
@@ -615,7 +573,6 @@ public final class Operadry {
         return (float) census.count(Census.NORMAL, inputs) / (float) all;
     }
 
-    /** Tells the mean number of terms of all sums. */
     public double meanTerms() throws ArithmeticException {
         if (totalCount == 0) {
             throw new ArithmeticException("there are no sums");
@@ -627,7 +584,6 @@ public final class Operadry {
         return (double) all / (double) totalCount;
     }
 
-    /** Checks the foundry. */
     public boolean isSound() {
         return areCountsSound() && areRulesSound() && areShrubsSound() && areWordsSound();
     }
@@ -895,7 +851,6 @@ public final class Operadry {
             return (code << (CODE_BITS - bits)) ^ Long.MIN_VALUE;
         }
 
-        /** Writes the row of the tree of a code. */
         void spell(long code, Row row) {
             long rest = code ^ Long.MIN_VALUE;
             int open = 1;
@@ -918,7 +873,6 @@ public final class Operadry {
             }
         }
 
-        /** Writes the row of the left side of a key. */
         void spellLeft(int key, Row row) {
             int upper = Rules.upperOf(key);
             int input = Rules.inputOf(key);
@@ -1254,7 +1208,6 @@ public final class Operadry {
             return high == low >> 63;
         }
 
-        /** The upper 64 bits of a product. */
         private static long highOf(long one, long other) {
             long oneLow = one & HALF;
             long oneHigh = one >> 32;
@@ -1742,7 +1695,6 @@ public final class Operadry {
             }
         }
 
-        /** Becomes a shrub with another one on one of its knots. */
         void join(Shrub base, Shrub top, int knot) {
             size = Math.min(base.size + top.size, MOST_KNOTS);
             for (int i = 0; i < size; i++) {
@@ -1899,7 +1851,6 @@ public final class Operadry {
             System.arraycopy(other.digits, 0, digits, 0, length);
         }
 
-        /** Becomes a product of two others. */
         void setToProduct(Whole one, Whole other) {
             length = Math.min(one.length + other.length, MOST_DIGITS);
             Arrays.fill(digits, 0, length, 0);
@@ -2089,7 +2040,6 @@ public final class Operadry {
             return many;
         }
 
-        /** Weighs a shrub, and brings the weight to lowest terms. */
         void weigh(Shrub shrub) {
             scale();
             weighWhole(shrub);
@@ -2226,7 +2176,6 @@ public final class Operadry {
             sumUp(lasts, 0, 0);
         }
 
-        /** Sums the products of fractions and weights, stage by stage. */
         private void sumUp(Whole[] fractions, int fraction, int weight) {
             total.setTo(0);
             for (int stage = 0; stage < count; stage++) {
