@@ -42,7 +42,7 @@ public final class Operadry {
     private static final int MOST_PIECES = 5;
 
     private static final int FIRST_ROOM = 64;
-    private static final int MOST_ROOM = 1 << 19;
+    private static final int MOST_ROOM = 1 << 18;
     private static final int MOST_STEPS = 1000000;
 
     private final Operations operations;
