@@ -1,3 +1,4 @@
+import java.util.ArrayList;
 import java.util.Arrays;
 import java.util.NoSuchElementException;
 
@@ -41,15 +42,16 @@ public final class Operadry {
     // Both operations of a left side have up to 3 inputs, and one of these is taken by the other.
     private static final int MOST_PIECES = 5;
 
-    private static final int FIRST_ROOM = 64;
-    private static final int MOST_ROOM = 1 << 18;
-    private static final int MOST_STEPS = 1000000;
+    // Far above what the room for a run can hold: 64 terms in each block.
+    private static final int MOST_BLOCKS = 1 << 18;
+    private static final int MOST_STEPS = 1 << 30;
 
     private final Operations operations;
     private final Row typed;
     private final Row spelling;
     private final Row[] trees;
     private int treeCount;
+    private final ArrayList<Block> spare;
     private final Total[] totals;
     private int totalCount;
     private final Rules rules;
@@ -68,9 +70,10 @@ public final class Operadry {
         typed = new Row();
         spelling = new Row();
         trees = new Row[MOST_TREES];
+        spare = new ArrayList<>();
         totals = new Total[MOST_SUMS];
         rules = new Rules();
-        rewriter = new Rewriter(operations, rules);
+        rewriter = new Rewriter(operations, rules, spare);
         census = new Census(operations, rules);
         sketch = new Shrub();
         shrubs = new Shrub[MOST_SHRUBS];
@@ -186,7 +189,7 @@ public final class Operadry {
         if (totalCount >= MOST_SUMS) {
             throw new IllegalStateException("there are 10 sums");
         }
-        totals[totalCount] = new Total();
+        totals[totalCount] = new Total(spare);
         totalCount++;
         return totalCount - 1;
     }
@@ -207,12 +210,11 @@ public final class Operadry {
             throw new UnsupportedOperationException("another number of inputs");
         }
         long code = operations.codeOf(row);
-        long old = total.amountOf(code);
-        if (!Pool.staysLong(old, amount, 1)) {
+        if (!total.gather(code, amount, 1)) {
             throw new ArithmeticException("beyond a long");
         }
-        total.set(leaves, code, old + amount);
-        return old + amount;
+        total.setWidth(leaves);
+        return total.amountOf(code);
     }
 
     public int terms(int sum) throws IndexOutOfBoundsException {
@@ -885,12 +887,126 @@ public final class Operadry {
         }
     }
 
-    /** A sum: amounts of trees with as many inputs, from the greatest tree on. */
+    /** Terms of a sum that stand one behind the other, from the greatest tree on. */
+    private static final class Block {
+        private static final int ROOM = 64;
+
+        private final long[] codes = new long[ROOM];
+        private final long[] amounts = new long[ROOM];
+        private int from;
+        private int to;
+
+        int size() {
+            return to - from;
+        }
+
+        boolean isFull() {
+            return to - from >= ROOM;
+        }
+
+        long codeAt(int place) {
+            return place >= 0 && place < to - from ? codes[from + place] : 0;
+        }
+
+        long amountAt(int place) {
+            return place >= 0 && place < to - from ? amounts[from + place] : 0;
+        }
+
+        void setAmount(int place, long amount) {
+            if (place >= 0 && place < to - from) {
+                amounts[from + place] = amount;
+            }
+        }
+
+        void empty() {
+            from = 0;
+            to = 0;
+        }
+
+        /** The first place whose tree is not greater than a code, or the size. */
+        int placeOf(long code) {
+            int low = from;
+            int high = to;
+            while (low < high) {
+                int middle = (low + high) >>> 1;
+                if (codes[middle] > code) {
+                    low = middle + 1;
+                } else {
+                    high = middle;
+                }
+            }
+            return low - from;
+        }
+
+        /** Puts a term at a place; the shorter side makes way for it, if it can. */
+        void insert(int place, long code, long amount) {
+            int many = to - from;
+            if (place < 0 || place > many || many >= ROOM) {
+                return;
+            }
+            int at = from + place;
+            if (from == 0 || (to < ROOM && 2 * place >= many)) {
+                System.arraycopy(codes, at, codes, at + 1, many - place);
+                System.arraycopy(amounts, at, amounts, at + 1, many - place);
+                to++;
+            } else {
+                System.arraycopy(codes, from, codes, from - 1, place);
+                System.arraycopy(amounts, from, amounts, from - 1, place);
+                from--;
+                at--;
+            }
+            codes[at] = code;
+            amounts[at] = amount;
+        }
+
+        void remove(int place) {
+            int many = to - from;
+            if (place < 0 || place >= many) {
+                return;
+            }
+            int at = from + place;
+            if (2 * place < many) {
+                System.arraycopy(codes, from, codes, from + 1, place);
+                System.arraycopy(amounts, from, amounts, from + 1, place);
+                from++;
+            } else {
+                System.arraycopy(codes, at + 1, codes, at, many - place - 1);
+                System.arraycopy(amounts, at + 1, amounts, at, many - place - 1);
+                to--;
+            }
+        }
+
+        /** Gives the lower half of the terms to an empty block. */
+        void halveInto(Block other) {
+            int many = (to - from) / 2;
+            to -= many;
+            System.arraycopy(codes, to, other.codes, 0, many);
+            System.arraycopy(amounts, to, other.amounts, 0, many);
+            other.from = 0;
+            other.to = many;
+        }
+    }
+
+    /**
+     * A sum: amounts of trees with as many inputs, from the greatest tree on, in blocks of which
+     * none is without terms. Blocks that a sum needs no more are spare ones for all sums, so that
+     * a sum that grows leaves no arrays behind.
+     */
     private static final class Total {
-        private long[] codes = new long[8];
-        private long[] amounts = new long[8];
+        private static final long HALF = 0xFFFFFFFFL;
+
+        private final ArrayList<Block> spare;
+        private final ArrayList<Block> blocks = new ArrayList<>();
         private int size;
         private int width;
+        private int soughtBlock;
+        private int soughtPlace;
+        private int nearBlock;
+        private int nearStart;
+
+        Total(ArrayList<Block> spare) {
+            this.spare = spare;
+        }
 
         int size() {
             return size;
@@ -900,12 +1016,24 @@ public final class Operadry {
             return width;
         }
 
+        void setWidth(int leaves) {
+            width = leaves;
+        }
+
         long codeAt(int term) {
-            return term >= 0 && term < size ? codes[term] : 0;
+            if (term < 0 || term >= size) {
+                return 0;
+            }
+            goNear(term);
+            return nearBlock < blocks.size() ? blocks.get(nearBlock).codeAt(term - nearStart) : 0;
         }
 
         long amountAt(int term) {
-            return term >= 0 && term < size ? amounts[term] : 0;
+            if (term < 0 || term >= size) {
+                return 0;
+            }
+            goNear(term);
+            return nearBlock < blocks.size() ? blocks.get(nearBlock).amountAt(term - nearStart) : 0;
         }
 
         boolean takes(int leaves) {
@@ -913,46 +1041,61 @@ public final class Operadry {
         }
 
         boolean isBelow(int leaves, long code) {
-            return size == 0 || (width == leaves && codes[0] < code);
+            return size == 0 || (width == leaves && codeAt(0) < code);
         }
 
         void empty(int leaves) {
+            for (int i = blocks.size() - 1; i >= 0; i--) {
+                spare.add(blocks.get(i));
+            }
+            blocks.clear();
             size = 0;
             width = leaves;
+            forgetNear();
         }
 
         long amountOf(long code) {
-            int term = termOf(code);
-            return term < size && codes[term] == code ? amounts[term] : 0;
+            return seek(code) ? blocks.get(soughtBlock).amountAt(soughtPlace) : 0;
         }
 
-        /** Sets the amount of a tree, or takes the tree out if that is 0. */
-        void set(int leaves, long code, long amount) {
-            int term = termOf(code);
-            boolean isThere = term < size && codes[term] == code;
-            if (isThere && amount != 0) {
-                amounts[term] = amount;
-            } else if (isThere) {
-                size--;
-                move(term + 1, term, size - term);
-            } else if (amount != 0 && hasRoom()) {
-                move(term, term + 1, size - term);
-                codes[term] = code;
-                amounts[term] = amount;
-                width = leaves;
-                size++;
+        /** Adds a product to the amount of a tree; false if it would be beyond a long. */
+        boolean gather(long code, long amount, long factor) {
+            boolean isThere = seek(code);
+            long old = isThere ? blocks.get(soughtBlock).amountAt(soughtPlace) : 0;
+            if (!staysLong(old, amount, factor)) {
+                return false;
             }
+            long now = old + amount * factor;
+            if (isThere && now != 0) {
+                blocks.get(soughtBlock).setAmount(soughtPlace, now);
+            } else if (isThere) {
+                remove(soughtBlock, soughtPlace);
+            } else if (now != 0) {
+                return insert(code, now);
+            }
+            return true;
         }
 
         /** Puts a term behind all others; false if there is no room. */
         boolean append(long code, long amount) {
-            if (!hasRoom()) {
-                return false;
+            int last = blocks.size() - 1;
+            if (last < 0 || blocks.get(last).isFull()) {
+                if (blocks.size() >= MOST_BLOCKS) {
+                    return false;
+                }
+                blocks.add(takeSpare());
+                last++;
             }
-            codes[size] = code;
-            amounts[size] = amount;
+            Block block = blocks.get(last);
+            block.insert(block.size(), code, amount);
             size++;
             return true;
+        }
+
+        void removeGreatest() {
+            if (size > 0) {
+                remove(0, 0);
+            }
         }
 
         boolean isLike(Total other) {
@@ -960,7 +1103,7 @@ public final class Operadry {
                 return false;
             }
             for (int i = 0; i < size; i++) {
-                if (codes[i] != other.codes[i] || amounts[i] != other.amounts[i]) {
+                if (codeAt(i) != other.codeAt(i) || amountAt(i) != other.amountAt(i)) {
                     return false;
                 }
             }
@@ -968,46 +1111,118 @@ public final class Operadry {
         }
 
         Total copy() {
-            Total same = new Total();
-            same.codes = codes.clone();
-            same.amounts = amounts.clone();
-            same.size = size;
+            Total same = new Total(spare);
             same.width = width;
+            for (int i = 0; i < size; i++) {
+                same.append(codeAt(i), amountAt(i));
+            }
             return same;
         }
 
-        /** The first term that is not greater than a code, or the size. */
-        private int termOf(long code) {
-            int from = 0;
-            int to = size;
-            while (from < to) {
-                int middle = (from + to) >>> 1;
-                if (codes[middle] > code) {
-                    from = middle + 1;
+        /** Goes from the block that was asked last to the one where a term stands. */
+        private void goNear(int term) {
+            while (nearBlock > 0 && term < nearStart) {
+                nearBlock--;
+                nearStart -= blocks.get(nearBlock).size();
+            }
+            while (nearBlock < blocks.size() - 1
+                    && term >= nearStart + blocks.get(nearBlock).size()) {
+                nearStart += blocks.get(nearBlock).size();
+                nearBlock++;
+            }
+        }
+
+        private void forgetNear() {
+            nearBlock = 0;
+            nearStart = 0;
+        }
+
+        /** Seeks the place of a tree, or the one where it belongs; tells whether it is there. */
+        private boolean seek(long code) {
+            int low = 1;
+            int high = blocks.size();
+            while (low < high) {
+                int middle = (low + high) >>> 1;
+                if (blocks.get(middle).codeAt(0) >= code) {
+                    low = middle + 1;
                 } else {
-                    to = middle;
+                    high = middle;
                 }
             }
-            return from;
-        }
-
-        private void move(int from, int to, int many) {
-            if (many > 0) {
-                System.arraycopy(codes, from, codes, to, many);
-                System.arraycopy(amounts, from, amounts, to, many);
-            }
-        }
-
-        private boolean hasRoom() {
-            if (size < codes.length) {
-                return true;
-            }
-            if (size >= MOST_ROOM) {
+            soughtBlock = low - 1;
+            soughtPlace = 0;
+            if (soughtBlock >= blocks.size()) {
                 return false;
             }
-            codes = Arrays.copyOf(codes, 2 * size);
-            amounts = Arrays.copyOf(amounts, 2 * size);
+            Block block = blocks.get(soughtBlock);
+            soughtPlace = block.placeOf(code);
+            return soughtPlace < block.size() && block.codeAt(soughtPlace) == code;
+        }
+
+        /** Puts a term where it was sought; false if there is no room. */
+        private boolean insert(long code, long amount) {
+            if (soughtBlock >= blocks.size()) {
+                return append(code, amount);
+            }
+            Block block = blocks.get(soughtBlock);
+            if (block.isFull()) {
+                if (blocks.size() >= MOST_BLOCKS) {
+                    return false;
+                }
+                Block lower = takeSpare();
+                block.halveInto(lower);
+                blocks.add(soughtBlock + 1, lower);
+                if (soughtPlace > block.size()) {
+                    soughtPlace -= block.size();
+                    block = lower;
+                }
+            }
+            block.insert(soughtPlace, code, amount);
+            size++;
+            forgetNear();
             return true;
+        }
+
+        private void remove(int number, int place) {
+            if (number < 0 || number >= blocks.size()) {
+                return;
+            }
+            Block block = blocks.get(number);
+            block.remove(place);
+            if (block.size() == 0) {
+                blocks.remove(number);
+                spare.add(block);
+            }
+            size--;
+            forgetNear();
+        }
+
+        private Block takeSpare() {
+            if (spare.isEmpty()) {
+                return new Block();
+            }
+            Block block = spare.remove(spare.size() - 1);
+            block.empty();
+            return block;
+        }
+
+        /** Whether a number and a product are together a long, even if the product is none. */
+        static boolean staysLong(long old, long amount, long factor) {
+            long product = amount * factor;
+            long low = old + product;
+            long carry = (low ^ Long.MIN_VALUE) < (product ^ Long.MIN_VALUE) ? 1 : 0;
+            long high = highOf(amount, factor) + (old >> 63) + carry;
+            return high == low >> 63;
+        }
+
+        private static long highOf(long one, long other) {
+            long oneLow = one & HALF;
+            long oneHigh = one >> 32;
+            long otherLow = other & HALF;
+            long otherHigh = other >> 32;
+            long middle = oneHigh * otherLow + ((oneLow * otherLow) >>> 32);
+            long rest = (middle & HALF) + oneLow * otherHigh;
+            return oneHigh * otherHigh + (middle >> 32) + (rest >> 32);
         }
     }
 
@@ -1063,162 +1278,6 @@ public final class Operadry {
         }
     }
 
-    /**
-     * The trees that wait to be rewritten, each once, the greatest one to be taken first. A slot
-     * is in use if its entry is one of now and calls this slot its home; so nothing is to be
-     * wiped when the pool is emptied.
-     */
-    private static final class Pool {
-        private static final long MIX = 0x9E3779B97F4A7C15L;
-        private static final long HALF = 0xFFFFFFFFL;
-
-        private long[] codes = new long[FIRST_ROOM];
-        private long[] amounts = new long[FIRST_ROOM];
-        private int[] heap = new int[FIRST_ROOM];
-        private int[] homes = new int[FIRST_ROOM];
-        private int[] slots = new int[2 * FIRST_ROOM];
-        private int size;
-        private int waiting;
-
-        void empty() {
-            size = 0;
-            waiting = 0;
-        }
-
-        boolean isEmpty() {
-            return waiting == 0;
-        }
-
-        long codeOf(int entry) {
-            return entry >= 0 && entry < size ? codes[entry] : 0;
-        }
-
-        long amountOf(int entry) {
-            return entry >= 0 && entry < size ? amounts[entry] : 0;
-        }
-
-        /** Adds a product to the amount of a tree; false if it would be beyond a long. */
-        boolean gather(long code, long amount, long factor) {
-            if (size >= codes.length && !grow()) {
-                return false;
-            }
-            int slot = slotOf(code);
-            if (!isTaken(slot)) {
-                enter(code, slot);
-            }
-            int entry = slots[slot];
-            if (!staysLong(amounts[entry], amount, factor)) {
-                return false;
-            }
-            amounts[entry] += amount * factor;
-            return true;
-        }
-
-        /** Takes the greatest tree that waits; NONE if none does. */
-        int take() {
-            if (waiting == 0) {
-                return NONE;
-            }
-            int greatest = heap[0];
-            waiting--;
-            int sinking = heap[waiting];
-            int place = 0;
-            int child = greaterChild(place);
-            while (child < waiting && codes[heap[child]] > codes[sinking]) {
-                heap[place] = heap[child];
-                place = child;
-                child = greaterChild(place);
-            }
-            heap[place] = sinking;
-            return greatest;
-        }
-
-        private int greaterChild(int place) {
-            int child = 2 * place + 1;
-            if (child + 1 < waiting && codes[heap[child + 1]] > codes[heap[child]]) {
-                return child + 1;
-            }
-            return child;
-        }
-
-        private void enter(long code, int slot) {
-            codes[size] = code;
-            amounts[size] = 0;
-            homes[size] = slot;
-            slots[slot] = size;
-            size++;
-            raise(size - 1);
-        }
-
-        private void raise(int entry) {
-            int place = waiting;
-            waiting++;
-            while (place > 0 && codes[heap[(place - 1) / 2]] < codes[entry]) {
-                heap[place] = heap[(place - 1) / 2];
-                place = (place - 1) / 2;
-            }
-            heap[place] = entry;
-        }
-
-        /** The slot of a code, or the free one where it belongs; half of the slots are free. */
-        private int slotOf(long code) {
-            int mask = slots.length - 1;
-            int slot = (int) ((code * MIX) >>> 32) & mask;
-            for (int i = 0; i < mask; i++) {
-                int entry = slots[slot];
-                if (entry >= size || homes[entry] != slot || codes[entry] == code) {
-                    return slot;
-                }
-                slot = (slot + 1) & mask;
-            }
-            return slot;
-        }
-
-        private boolean isTaken(int slot) {
-            int entry = slots[slot];
-            return entry < size && homes[entry] == slot;
-        }
-
-        private boolean grow() {
-            int all = size;
-            if (all >= MOST_ROOM) {
-                return false;
-            }
-            codes = Arrays.copyOf(codes, 2 * all);
-            amounts = Arrays.copyOf(amounts, 2 * all);
-            heap = Arrays.copyOf(heap, 2 * all);
-            homes = new int[2 * all];
-            slots = new int[4 * all];
-            size = 0;
-            for (int entry = 0; entry < all; entry++) {
-                int slot = slotOf(codes[entry]);
-                homes[entry] = slot;
-                slots[slot] = entry;
-                size++;
-            }
-            return true;
-        }
-
-        /** Whether a number and a product are together a long, even if the product is none. */
-        static boolean staysLong(long old, long amount, long factor) {
-            long product = amount * factor;
-            long low = old + product;
-            long carry = (low ^ Long.MIN_VALUE) < (product ^ Long.MIN_VALUE) ? 1 : 0;
-            long high = highOf(amount, factor) + (old >> 63) + carry;
-            return high == low >> 63;
-        }
-
-        private static long highOf(long one, long other) {
-            long oneLow = one & HALF;
-            long oneHigh = one >> 32;
-            long otherLow = other & HALF;
-            long otherHigh = other >> 32;
-            long middle = oneHigh * otherLow + ((oneLow * otherLow) >>> 32);
-            long rest = (middle & HALF) + oneLow * otherHigh;
-            return oneHigh * otherHigh + (middle >> 32) + (rest >> 32);
-        }
-    }
-
     /** Finds left sides in trees, and puts right sides in their place. */
     private static final class Rewriter {
         static final int SAME = 0;
@@ -1227,7 +1286,6 @@ public final class Operadry {
 
         private final Operations operations;
         private final Rules rules;
-        private final Pool pool = new Pool();
         private final Row tree = new Row();
         private final Row side = new Row();
         private final Row next = new Row();
@@ -1240,12 +1298,16 @@ public final class Operadry {
         private int metInput;
         private long normalCount;
         private long dualCount;
-        private Total result = new Total();
-        private Total former = new Total();
+        private final Total pool;
+        private Total result;
+        private Total former;
 
-        Rewriter(Operations operations, Rules rules) {
+        Rewriter(Operations operations, Rules rules, ArrayList<Block> spare) {
             this.operations = operations;
             this.rules = rules;
+            pool = new Total(spare);
+            result = new Total(spare);
+            former = new Total(spare);
         }
 
         long walkedNormal() {
@@ -1265,28 +1327,29 @@ public final class Operadry {
 
         /** Reduces a total into the result; false if an amount would be beyond a long. */
         boolean rewriteTotal(Total total) {
-            pool.empty();
+            start(total.width());
             for (int term = 0; term < total.size(); term++) {
-                if (!pool.gather(total.codeAt(term), total.amountAt(term), 1)) {
+                if (!pool.append(total.codeAt(term), total.amountAt(term))) {
                     return false;
                 }
             }
-            return drain(total.width());
+            return drain();
+        }
+
+        private void start(int width) {
+            pool.empty(width);
+            result.empty(width);
         }
 
         /**
          * What comes instead of a tree is lower; so a tree that is taken as the greatest one has
          * all of its amount, and stays as it is if it is normal.
          */
-        private boolean drain(int width) {
-            result.empty(width);
-            for (int steps = 0; steps < MOST_STEPS && !pool.isEmpty(); steps++) {
-                int entry = pool.take();
-                long code = pool.codeOf(entry);
-                long amount = pool.amountOf(entry);
-                if (amount == 0) {
-                    continue;
-                }
+        private boolean drain() {
+            for (int steps = 0; steps < MOST_STEPS && pool.size() > 0; steps++) {
+                long code = pool.codeAt(0);
+                long amount = pool.amountAt(0);
+                pool.removeGreatest();
                 operations.spell(code, tree);
                 boolean isDone;
                 if (meets(tree) == 0) {
@@ -1298,7 +1361,7 @@ public final class Operadry {
                     return false;
                 }
             }
-            return pool.isEmpty();
+            return pool.size() == 0;
         }
 
         /**
@@ -1411,12 +1474,12 @@ public final class Operadry {
                 return SAME;
             }
             spellChain(one, other);
-            if (!rewriteFirst(0, Rules.inputOf(one))) {
+            if (!rewriteFirst(0, Rules.inputOf(one)) || !drain()) {
                 return BEYOND;
             }
             former = swapResult(former);
             spellChain(one, other);
-            if (!rewriteFirst(1 + Rules.inputOf(one), Rules.inputOf(other))) {
+            if (!rewriteFirst(1 + Rules.inputOf(one), Rules.inputOf(other)) || !drain()) {
                 return BEYOND;
             }
             return former.isLike(result) ? SAME : UNLIKE;
@@ -1429,21 +1492,20 @@ public final class Operadry {
                 return SAME;
             }
             spellFork(one, other);
-            if (!rewriteFirst(0, Rules.inputOf(one))) {
+            if (!rewriteFirst(0, Rules.inputOf(one)) || !drain()) {
                 return BEYOND;
             }
             former = swapResult(former);
             spellFork(one, other);
-            if (!rewriteFirst(0, Rules.inputOf(other))) {
+            if (!rewriteFirst(0, Rules.inputOf(other)) || !drain()) {
                 return BEYOND;
             }
             return former.isLike(result) ? SAME : UNLIKE;
         }
 
         private boolean rewriteFirst(int place, int input) {
-            pool.empty();
-            int width = tree.leaves();
-            return rewriteAt(place, input, 1) && drain(width);
+            start(tree.leaves());
+            return rewriteAt(place, input, 1);
         }
 
         private void spellChain(int one, int other) {
