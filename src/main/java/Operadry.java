@@ -1482,7 +1482,7 @@ public final class Operadry {
             if (!rewriteFirst(1 + Rules.inputOf(one), Rules.inputOf(other)) || !drain()) {
                 return BEYOND;
             }
-            return former.isLike(result) ? SAME : UNLIKE;
+            return compareEnds();
         }
 
         /** Compares what comes of a tree where two left sides have one upper operation. */
@@ -1500,7 +1500,14 @@ public final class Operadry {
             if (!rewriteFirst(0, Rules.inputOf(other)) || !drain()) {
                 return BEYOND;
             }
-            return former.isLike(result) ? SAME : UNLIKE;
+            return compareEnds();
+        }
+
+        private int compareEnds() {
+            boolean isSame = former.isLike(result);
+            former.empty(0);
+            result.empty(0);
+            return isSame ? SAME : UNLIKE;
         }
 
         private boolean rewriteFirst(int place, int input) {

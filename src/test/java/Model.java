@@ -15,6 +15,7 @@ final class Model {
     static final class Tree implements Comparable<Tree> {
         final int operator;
         final List<Tree> parts;
+        private List<String> allWays;
 
         Tree(int operator, List<Tree> parts) {
             this.operator = operator;
@@ -61,15 +62,21 @@ final class Model {
             }
         }
 
+        private List<String> allWays() {
+            if (allWays == null) {
+                allWays = new ArrayList<>();
+                ways("", allWays);
+            }
+            return allWays;
+        }
+
         @Override
         public int compareTo(Tree other) {
             if (inputs() != other.inputs()) {
                 return Integer.compare(inputs(), other.inputs());
             }
-            List<String> mine = new ArrayList<>();
-            List<String> its = new ArrayList<>();
-            ways("", mine);
-            other.ways("", its);
+            List<String> mine = allWays();
+            List<String> its = other.allWays();
             for (int i = 0; i < mine.size(); i++) {
                 String one = mine.get(i);
                 String two = its.get(i);
@@ -394,26 +401,23 @@ final class Model {
         return exchange(tree, left, other);
     }
 
+    int mostSteps = 6000;
     private int steps;
 
-    /** False if it takes too long. */
+    /** What comes instead of a tree is lower, so none ahead is met again; false if it is long. */
     private boolean reduceTotal(TreeMap<Tree, BigInteger> sum, int mostSteps) {
         steps = 0;
-        boolean isGoing = true;
-        while (isGoing) {
-            isGoing = false;
-            for (Tree tree : sum.keySet()) {
-                List<int[]> places = places(tree);
-                if (!places.isEmpty()) {
-                    BigInteger amount = sum.remove(tree);
-                    rewrite(sum, tree, places.get(0), amount);
-                    isGoing = true;
-                    break;
-                }
+        Tree tree = sum.isEmpty() ? null : sum.firstKey();
+        while (tree != null) {
+            List<int[]> places = places(tree);
+            if (!places.isEmpty()) {
+                BigInteger amount = sum.remove(tree);
+                rewrite(sum, tree, places.get(0), amount);
             }
             if (++steps > mostSteps) {
                 return false;
             }
+            tree = sum.higherKey(tree);
         }
         return true;
     }
@@ -425,7 +429,7 @@ final class Model {
 
     int reduce(int sum) {
         TreeMap<Tree, BigInteger> total = new TreeMap<>(at(sums, sum));
-        if (!reduceTotal(total, 3000)) {
+        if (!reduceTotal(total, mostSteps)) {
             throw new TooLong();
         }
         sums.set(sum, total);
@@ -521,7 +525,7 @@ final class Model {
                 for (int[] place : places.size() > 1 ? places : new ArrayList<int[]>()) {
                     TreeMap<Tree, BigInteger> sum = new TreeMap<>(Collections.reverseOrder());
                     rewrite(sum, tree, place, BigInteger.ONE);
-                    if (!reduceTotal(sum, 3000)) {
+                    if (!reduceTotal(sum, mostSteps)) {
                         throw new TooLong();
                     }
                     ends.add(sum);

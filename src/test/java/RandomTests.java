@@ -26,6 +26,9 @@ public final class RandomTests {
             tests.runWords(first + 5L * run + 2);
             tests.runMixed(first + 5L * run + 3);
             tests.runRules(first + 5L * run + 4);
+            if (run % 10 == 0) {
+                tests.runMany(first + 5L * run + 4);
+            }
         }
         tests.compareCounts();
         check.end();
@@ -240,7 +243,7 @@ public final class RandomTests {
         }
         int most = next(3) == 0 ? 99 : 2;
         for (int i = 0; i < rules; i++) {
-            tellRule(most);
+            tellRule(next(model.trees.size()), most);
         }
         both("isConfluent()", () -> bit(model.isConfluent()), () -> bit(x.isConfluent()));
         for (int i = 0; i < 4; i++) {
@@ -265,8 +268,7 @@ public final class RandomTests {
         both("tree()", () -> model.tree(), () -> x.tree());
     }
 
-    private void tellRule(int most) {
-        int left = next(model.trees.size());
+    private void tellRule(int left, int most) {
         Model.Tree tree = model.trees.get(left);
         int sum = model.sums.size();
         if (tree.operators() != 2) {
@@ -294,7 +296,7 @@ public final class RandomTests {
         }
         int inputs = 3 + next(4);
         for (int i = 0; i < 6; i++) {
-            growTree(inputs);
+            growTree(inputs, false);
             int tree = model.trees.size() - 1;
             int amount = next(2 * most + 1) - most;
             both("add(" + sum + ", " + tree + ", " + amount + ")",
@@ -309,14 +311,72 @@ public final class RandomTests {
         both("checksum()", () -> model.checksum(), () -> x.checksum());
     }
 
-    /** Types a tree with so many inputs, if its operations can have that. */
-    private void growTree(int inputs) {
+    /** Rules with many trees on their right sides, so that sums come to have many terms. */
+    private void runMany(long number) {
+        begin(number);
+        for (int i = 0; i < 4; i++) {
+            both("operation(2)", () -> model.operation(2), () -> x.operation(2));
+        }
+        for (int i = 0; i < 12; i++) {
+            typeTwo();
+        }
+        int most = next(2) == 0 ? 99 : 1;
+        int rules = 1 + next(2);
+        for (int i = 0; i < rules; i++) {
+            wipe();
+            String left = i == 0 ? "33999" : next(2) == 0 ? "39399" : "32999";
+            for (int place = 0; place < left.length(); place++) {
+                type(left.charAt(place) - '0');
+            }
+            both("tree()", () -> model.tree(), () -> x.tree());
+            tellRule(model.trees.size() - 1, most);
+        }
+        for (int i = 0; i < 3; i++) {
+            fillGreat(most);
+        }
+        tellRule(next(model.trees.size()), most);
+        for (int sum = 0; sum < model.sums.size(); sum++) {
+            int again = sum;
+            both("reduce(" + again + ")", () -> model.reduce(again), () -> x.reduce(again));
+        }
+        finish();
+    }
+
+    /** A great tree, what comes of it, and trees that are added to that. */
+    private void fillGreat(int most) {
+        int sum = model.sums.size();
+        both("sum()", () -> model.sum(), () -> x.sum());
+        int inputs = 5 + next(4);
+        growTree(inputs, true);
+        int great = model.trees.size() - 1;
+        both("add(" + sum + ", " + great + ", 1)", () -> model.add(sum, great, 1),
+                () -> x.add(sum, great, 1));
+        both("reduce(" + sum + ")", () -> model.reduce(sum), () -> x.reduce(sum));
+        for (int i = 0; i < 4; i++) {
+            int term = next(model.terms(sum) + 1);
+            both("amount(" + sum + ", " + term + ")", () -> model.amount(sum, term),
+                    () -> x.amount(sum, term));
+            int place = next(2 * inputs);
+            both("termSign(" + sum + ", " + term + ", " + place + ")",
+                    () -> model.termSign(sum, term, place), () -> x.termSign(sum, term, place));
+            growTree(inputs, next(2) == 0);
+            int tree = model.trees.size() - 1;
+            int amount = next(2 * most + 1) - most;
+            both("add(" + sum + ", " + tree + ", " + amount + ")",
+                    () -> model.add(sum, tree, amount), () -> x.add(sum, tree, amount));
+        }
+        both("checksum()", () -> model.checksum(), () -> x.checksum());
+    }
+
+    /** Types a tree with so many inputs, if its operations can have that; a great one on demand. */
+    private void growTree(int inputs, boolean isGreat) {
         StringBuilder row = new StringBuilder("9");
         int many = 1;
         for (int i = 0; i < inputs && many < inputs; i++) {
-            int operator = next(model.widths.size());
+            boolean isLast = isGreat && next(8) > 0;
+            int operator = isLast ? model.widths.size() - 1 : next(model.widths.size());
             int width = model.widths.get(operator);
-            int leaf = next(many);
+            int leaf = isGreat && next(4) > 0 ? 0 : next(many);
             int place = 0;
             for (int seen = 0; seen < leaf || row.charAt(place) != '9'; place++) {
                 seen += row.charAt(place) == '9' ? 1 : 0;

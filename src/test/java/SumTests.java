@@ -20,6 +20,7 @@ public final class SumTests {
         tests.reducing();
         tests.reducingToMany();
         tests.reducingToThousands();
+        tests.reducingToAMillion();
         tests.reducingWide();
         tests.firstPlaceFirst();
         tests.nested();
@@ -295,6 +296,46 @@ public final class SumTests {
                 () -> x.amount(sum, 6561));
         check.due("16: thousands again", x.reduce(sum), 6561);
         check.due("16: few after them", x.reduce(right), 9);
+    }
+
+    /**
+     * Four pairs of wide operations come to each of 27 pairs, in two trees of which no like ones
+     * come: 2 times 27 to the 4th trees.
+     */
+    private void reducingToAMillion() {
+        Operadry x = new Operadry();
+        for (int i = 0; i < 4; i++) {
+            x.operation(3);
+        }
+        int right = x.sum();
+        for (int pair = 0; pair < 27; pair++) {
+            String inputs = "999".substring(pair / 9);
+            String row = pair / 3 % 3 + "999".substring(3 - pair / 9) + pair % 3 + "999" + inputs;
+            x.add(right, Check.tree(x, row.substring(0, 7)), 1);
+        }
+        int pair = Check.tree(x, "3399999");
+        x.rule(pair, right);
+        int sum = x.sum();
+        for (int input = 0; input < 5; input += 4) {
+            int twoPairs = x.compose(pair, input, pair);
+            int threePairs = x.compose(twoPairs, input, pair);
+            x.add(sum, x.compose(threePairs, input, pair), 3 + input);
+        }
+        check.due("12: two", x.terms(sum), 2);
+        check.due("16: a million", x.reduce(sum), 2 * 27 * 27 * 27 * 27);
+        check.due("12: a million", x.terms(sum), 2 * 27 * 27 * 27 * 27);
+        int[] amounts = new int[8];
+        for (int term = 0; term < 2 * 27 * 27 * 27 * 27; term += 10000) {
+            amounts[(int) x.amount(sum, term)]++;
+            check.due("14: of a million, " + term, x.termSign(sum, term, 0) < 3, true);
+        }
+        check.due("13: of a million", amounts[3] + amounts[7], 107);
+        long before = x.checksum();
+        check.due("16: a million again", x.reduce(sum), 2 * 27 * 27 * 27 * 27);
+        check.due("41: as before", x.checksum(), before);
+        check.due("13: the lowest", x.amount(sum, 2 * 27 * 27 * 27 * 27 - 1), 7);
+        check.due("13: the greatest", x.amount(sum, 0), 3);
+        check.due("43: half of them", x.meanTerms() == (2 * 27 * 27 * 27 * 27 + 27) / 2.0, true);
     }
 
     /** A wide operation comes to be two narrow ones, up to 16 of these in one tree. */
