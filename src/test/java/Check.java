@@ -1,4 +1,6 @@
 import java.util.Arrays;
+import java.util.function.Supplier;
+import java.util.function.ToLongFunction;
 
 /** Compares answers with those that are due, and counts what is wrong. */
 final class Check {
@@ -50,6 +52,21 @@ final class Check {
         }
         wrong++;
         System.out.println(what + " answered " + got + ", due is " + kind.getName());
+    }
+
+    /** The call is refused, and then all that the calls show is as if it had not been. */
+    void refused(String what, Class<? extends RuntimeException> kind, Supplier<Operadry> made,
+            ToLongFunction<Operadry> call) {
+        thrown(what, kind, () -> call.applyAsLong(made.get()));
+        for (int part = 0; part < State.PARTS; part++) {
+            Operadry asked = made.get();
+            try {
+                call.applyAsLong(asked);
+            } catch (RuntimeException e) {
+                dueText(what + ", part " + part + " of what is shown then", State.tell(asked, part),
+                        State.tell(made.get(), part));
+            }
+        }
     }
 
     /** Tells what was found, and ends the program: with 1 if there was something wrong. */

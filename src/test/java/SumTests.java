@@ -19,8 +19,6 @@ public final class SumTests {
         tests.rightSidesStay();
         tests.reducing();
         tests.reducingToMany();
-        tests.reducingToThousands();
-        tests.reducingToAMillion();
         tests.reducingWide();
         tests.firstPlaceFirst();
         tests.nested();
@@ -28,6 +26,7 @@ public final class SumTests {
         tests.toTheEdgeOfLong();
         tests.normal();
         tests.confluent();
+        tests.confluentWide();
         tests.confluentBeyondLong();
         tests.checksums();
         tests.means();
@@ -265,79 +264,6 @@ public final class SumTests {
         return model.tree();
     }
 
-    /** Four pairs of operations come to each pair of three other ones: 3 to the 8th trees. */
-    private void reducingToThousands() {
-        Operadry x = withPairs(4);
-        int right = x.sum();
-        for (int pair = 0; pair < 9; pair++) {
-            x.add(right, Check.tree(x, pair / 3 + "9" + pair % 3 + "99"), pair + 1);
-        }
-        x.rule(Check.tree(x, "39399"), right);
-        int sum = Check.sum(x, "2 39393939393939399");
-        check.due("16: thousands", x.reduce(sum), 6561);
-        check.due("12: thousands", x.terms(sum), 6561);
-        for (int term = 0; term < 6561; term += 656) {
-            StringBuilder row = new StringBuilder();
-            for (int place = 0; place < 17; place++) {
-                row.append(x.termSign(sum, term, place));
-            }
-            long amount = 2;
-            StringBuilder want = new StringBuilder("9");
-            int rest = 6560 - term;
-            for (int pair = 0; pair < 4; pair++) {
-                want.insert(0, rest / 3 % 3 + "9" + rest % 3 + "9");
-                amount *= rest % 9 + 1;
-                rest /= 9;
-            }
-            check.dueText("14: of thousands, " + term, row.toString(), want.toString());
-            check.due("13: of thousands, " + term, x.amount(sum, term), amount);
-        }
-        check.thrown("13: behind thousands", NoSuchElementException.class,
-                () -> x.amount(sum, 6561));
-        check.due("16: thousands again", x.reduce(sum), 6561);
-        check.due("16: few after them", x.reduce(right), 9);
-    }
-
-    /**
-     * Four pairs of wide operations come to each of 27 pairs, in two trees of which no like ones
-     * come: 2 times 27 to the 4th trees.
-     */
-    private void reducingToAMillion() {
-        Operadry x = new Operadry();
-        for (int i = 0; i < 4; i++) {
-            x.operation(3);
-        }
-        int right = x.sum();
-        for (int pair = 0; pair < 27; pair++) {
-            String inputs = "999".substring(pair / 9);
-            String row = pair / 3 % 3 + "999".substring(3 - pair / 9) + pair % 3 + "999" + inputs;
-            x.add(right, Check.tree(x, row.substring(0, 7)), 1);
-        }
-        int pair = Check.tree(x, "3399999");
-        x.rule(pair, right);
-        int sum = x.sum();
-        for (int input = 0; input < 5; input += 4) {
-            int twoPairs = x.compose(pair, input, pair);
-            int threePairs = x.compose(twoPairs, input, pair);
-            x.add(sum, x.compose(threePairs, input, pair), 3 + input);
-        }
-        check.due("12: two", x.terms(sum), 2);
-        check.due("16: a million", x.reduce(sum), 2 * 27 * 27 * 27 * 27);
-        check.due("12: a million", x.terms(sum), 2 * 27 * 27 * 27 * 27);
-        int[] amounts = new int[8];
-        for (int term = 0; term < 2 * 27 * 27 * 27 * 27; term += 10000) {
-            amounts[(int) x.amount(sum, term)]++;
-            check.due("14: of a million, " + term, x.termSign(sum, term, 0) < 3, true);
-        }
-        check.due("13: of a million", amounts[3] + amounts[7], 107);
-        long before = x.checksum();
-        check.due("16: a million again", x.reduce(sum), 2 * 27 * 27 * 27 * 27);
-        check.due("41: as before", x.checksum(), before);
-        check.due("13: the lowest", x.amount(sum, 2 * 27 * 27 * 27 * 27 - 1), 7);
-        check.due("13: the greatest", x.amount(sum, 0), 3);
-        check.due("43: half of them", x.meanTerms() == (2 * 27 * 27 * 27 * 27 + 27) / 2.0, true);
-    }
-
     /** A wide operation comes to be two narrow ones, up to 16 of these in one tree. */
     private void reducingWide() {
         Operadry x = new Operadry();
@@ -502,6 +428,40 @@ public final class SumTests {
         check.due("20: both to nothing", y.isConfluent(), true);
         y.rule(Check.tree(y, "01999"), Check.sum(y, "1 00999"));
         check.due("20: one above the other", y.isConfluent(), false);
+    }
+
+    /** A wide operation is two narrow ones that stand to the right. */
+    private void confluentWide() {
+        for (int changed = 0; changed < 5; changed++) {
+            Operadry x = new Operadry();
+            x.operation(2);
+            x.operation(3);
+            String[] lefts = {"109999", "190999", "199099", "00999"};
+            String[] rights = {"091999", "091999", "091999", "09099"};
+            for (int rule = 0; rule < 4; rule++) {
+                int amount = rule == changed ? 2 : 1;
+                x.rule(Check.tree(x, lefts[rule]), Check.sum(x, amount + " " + rights[rule]));
+            }
+            check.due("20: four places at a wide one, changed " + changed, x.isConfluent(),
+                    changed == 4);
+        }
+        check.due("20: first and last input", wideWith("109999", "199099"), false);
+        check.due("20: first and middle input", wideWith("109999", "190999"), false);
+        check.due("20: middle and last input", wideWith("190999", "199099"), false);
+        check.due("20: wide on wide, one input", wideWith("1199999", "00999"), true);
+        check.due("20: wide on wide, two inputs", wideWith("1199999", "1991999"), false);
+    }
+
+    /** A rule to nothing, and one to a lower tree. */
+    private static boolean wideWith(String nothing, String lower) {
+        Operadry x = new Operadry();
+        x.operation(2);
+        x.operation(3);
+        x.rule(Check.tree(x, nothing), x.sum());
+        int inputs = lower.replaceAll("[^9]", "").length();
+        String right = inputs == 3 ? "09099" : inputs == 4 ? "091999" : "090909099";
+        x.rule(Check.tree(x, lower), Check.sum(x, "1 " + right));
+        return x.isConfluent();
     }
 
     private static boolean confluentWith(String left, String... right) {
