@@ -1071,7 +1071,7 @@ public final class Operadry {
             } else if (isThere) {
                 remove(soughtBlock, soughtPlace);
             } else if (now != 0) {
-                return insert(code, now);
+                return size == 0 ? append(code, now) : insert(code, now);
             }
             return true;
         }
@@ -1162,7 +1162,7 @@ public final class Operadry {
         /** Puts a term where it was sought; false if there is no room. */
         private boolean insert(long code, long amount) {
             if (soughtBlock >= blocks.size()) {
-                return append(code, amount);
+                return false;
             }
             Block block = blocks.get(soughtBlock);
             if (block.isFull()) {
