@@ -1,4 +1,6 @@
-/** Promises 29 to 33, where they end: the last numbers that are taken, and the first that are not. */
+/**
+ * Promises 29 to 33, where they end: the last numbers that are taken, and the first that are not.
+ */
 public final class MethodEdgeTests {
     private static final Class<IllegalArgumentException> ARGUMENT = IllegalArgumentException.class;
     private static final Class<IndexOutOfBoundsException> INDEX = IndexOutOfBoundsException.class;
@@ -250,7 +252,7 @@ public final class MethodEdgeTests {
         refuse("32: far below the least long", ARITHMETIC, () -> z.weight(STAR, true));
     }
 
-    /** All rows of fractions a are alike, so that a cherry has the sum of b times that of a twice. */
+    /** All rows of fractions a are alike: a cherry has the sum of b times that of a, twice. */
     private static Operadry ofLowers(int[] steps, int[] lasts) {
         Operadry x = withShrubs();
         x.stages(4);
@@ -383,7 +385,8 @@ public final class MethodEdgeTests {
 
     private void failBy(String row, Operadry x) {
         check.due("33: " + row + " alone fails", x.order(), 3);
-        for (String other : new String[] {"0", "00", "000", "001", "0000", "0001", "0011", "0012"}) {
+        String[] all = {"0", "00", "000", "001", "0000", "0001", "0011", "0012"};
+        for (String other : all) {
             int shrub = Check.shrub(x, other);
             boolean isDue = x.weight(shrub, true) == 1
                     && x.weight(shrub, false) == x.density(shrub);

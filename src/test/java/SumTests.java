@@ -325,21 +325,12 @@ public final class SumTests {
     private static final String HIGH = "3939393939399";
     private static final String LOW = "0909090909099";
 
-    private static void addMany(Operadry x, int sum, int tree, int amount) {
-        int rest = amount;
-        for (int i = 0; i < 8; i++) {
-            int now = Math.max(-99, Math.min(99, rest));
-            x.add(sum, tree, now);
-            rest -= now;
-        }
-    }
-
     private void beyondLong() {
         Operadry x = withLadder();
         int high = Check.tree(x, HIGH);
         int low = Check.tree(x, LOW);
         int sum = x.sum();
-        addMany(x, sum, high, -512);
+        Made.addMany(x, sum, high, -512);
         check.due("16: the least long", x.reduce(sum), 1);
         check.due("16: the least long", x.amount(sum, 0), Long.MIN_VALUE);
         check.dueText("16: the tree", Check.terms(x, sum), "[" + Long.MIN_VALUE + " " + LOW + "]");
@@ -350,7 +341,7 @@ public final class SumTests {
                 () -> x.add(sum, 0, -1));
         check.due("11: nothing has changed", x.add(sum, low, 0), Long.MIN_VALUE);
         int other = x.sum();
-        addMany(x, other, high, 512);
+        Made.addMany(x, other, high, 512);
         x.add(other, low, 5);
         long before = x.checksum();
         check.thrown("16: beyond a long", ArithmeticException.class, () -> x.reduce(other));
@@ -371,7 +362,7 @@ public final class SumTests {
         x.add(sum, high, 1);
         x.reduce(sum);
         check.due("16: nine steps", x.amount(sum, 0), 1L << 54);
-        addMany(x, sum, high, 511);
+        Made.addMany(x, sum, high, 511);
         check.thrown("16: one too much", ArithmeticException.class, () -> x.reduce(sum));
         check.due("16: nothing has changed", x.terms(sum), 2);
         check.due("16: nothing has changed", x.amount(sum, 0), 511);
