@@ -15,6 +15,7 @@ public final class ManyTermsTests {
         tests.addingToThousands();
         tests.addingAheadOfThousands();
         tests.takingFromThousands();
+        tests.askingBehindWhatHasGone();
         tests.aMillion();
         tests.check.end();
     }
@@ -129,6 +130,27 @@ public final class ManyTermsTests {
             check.due("12: all again", x.terms(1), THOUSANDS);
             check.due("13: again, term " + term, x.amount(1, term), 50);
             x.add(1, tree, (int) Math.min(amount, 99) - 50);
+        }
+    }
+
+    /** The last terms are asked for ahead of it, so that these are asked for near them. */
+    private void askingBehindWhatHasGone() {
+        Operadry x = withThousands();
+        x.reduce(1);
+        int last = THOUSANDS - 1;
+        for (int term : new int[] {0, 728, 5831, 6479}) {
+            int tree = Check.tree(x, rowOf(term));
+            long left = amountOf(term);
+            check.due("13: the last one", x.amount(1, last), amountOf(last));
+            while (left > 0) {
+                left = x.add(1, tree, (int) -Math.min(left, 99));
+            }
+            check.due("13: the last one, without " + term, x.amount(1, last - 1), amountOf(last));
+            check.due("13: the one before it", x.amount(1, last - 2), amountOf(last - 1));
+            check.due("14: the last one", x.termSign(1, last - 1, 15), 9);
+            check.due("11: again, term " + term, x.add(1, tree, 60), 60);
+            check.due("13: the last one again", x.amount(1, last), amountOf(last));
+            check.due("13: the one before it again", x.amount(1, last - 1), amountOf(last - 1));
         }
     }
 

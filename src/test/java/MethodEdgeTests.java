@@ -33,6 +33,8 @@ public final class MethodEdgeTests {
         tests.greatestLower();
         tests.lowestTerms();
         tests.lowerOneIsAbove0();
+        tests.greatCommonLowers();
+        tests.stagesThatTakeOneAnotherAway();
         tests.orders0To4();
         tests.ordersThatFailByOneShrub();
         tests.ordersThatFailByOneOfFourKnots();
@@ -308,6 +310,67 @@ public final class MethodEdgeTests {
         weight("1/6", x, TWO, 1, 6);
         weight("-1/18", x, CHERRY, -1, 18);
         weight("to the 7th", x, STAR, 1, 2 * 2187);
+    }
+
+    /** Stage 0 takes nothing from the others, whose lower numbers have no divisor in common. */
+    private static Operadry withUnlikeLowers() {
+        Operadry x = withShrubs();
+        x.stages(4);
+        int[] lowers = {99, 98, 97, 95, 89, 83, 79, 73, 71, 67, 61, 59};
+        for (int place = 0; place < lowers.length; place++) {
+            x.step(1 + place / 4, place % 4, place % 2 == 0 ? 53 : -47, lowers[place]);
+        }
+        x.step(0, 0, 1, 2);
+        x.last(0, 3, 5);
+        return x;
+    }
+
+    private void greatCommonLowers() {
+        Operadry x = withUnlikeLowers();
+        weight("stage 0 alone", x, KNOT, 3, 5);
+        weight("stage 0 alone", x, TWO, 3, 10);
+        weight("stage 0 alone", x, CHERRY, 3, 20);
+        weight("stage 0 alone", x, STAR, 3, 640);
+        x.step(0, 0, -1, 3);
+        weight("turned", x, STAR, -1, 3645);
+        x.last(0, 1, 1);
+        x.step(0, 0, 1, 2);
+        x.last(1, 1, 43);
+        refuse("32: lower, with stage 1", ARITHMETIC, () -> x.weight(STAR, false));
+        refuse("32: upper, with stage 1", ARITHMETIC, () -> x.weight(STAR, true));
+        check.due("33: with stage 1", x.order(), 0);
+        x.last(1, 0, 43);
+        check.due("33: stage 0 alone", x.order(), 2);
+    }
+
+    /** Two stages take the same, and have the same b but for its sign. */
+    private void stagesThatTakeOneAnotherAway() {
+        Operadry x = withUnlikeLowers();
+        int[] lowers = {99, 98, 97, 95};
+        for (int place = 0; place < lowers.length; place++) {
+            x.step(2, place, place % 2 == 0 ? 53 : -47, lowers[place]);
+        }
+        x.last(0, 0, 1);
+        x.last(1, 31, 43);
+        x.last(2, -31, 43);
+        weight("nothing is left", x, KNOT, 0, 1);
+        weight("nothing is left", x, TWO, 0, 1);
+        weight("nothing is left", x, STAR, 0, 1);
+        x.last(0, -1, 1);
+        weight("stage 0 is left", x, STAR, -1, 128);
+        weight("stage 0 is left", x, TWO, -1, 2);
+        x.last(3, 1, 1);
+        x.step(3, 0, 1, 2);
+        x.step(3, 1, 0, 1);
+        x.step(3, 2, 0, 1);
+        x.step(3, 3, 1, 97);
+        weight("nearly nothing is left", x, TWO, 1, 97);
+        weight("nearly nothing is left", x, CHERRY, 98, 97 * 97);
+        x.last(0, 0, 1);
+        x.last(3, -1, 1);
+        x.step(3, 0, 0, 1);
+        weight("a little that is behind them", x, TWO, -1, 97);
+        weight("a little that is behind them", x, STAR, -1, 80798284478113L);
     }
 
     /** Tells a method of numbers, upper and lower: those of a for each stage, then those of b. */

@@ -45,6 +45,9 @@ public final class SumEdgeTests {
         tests.reducingToTheGreatestLong();
         tests.reducingByGreatAmounts();
         tests.reducingByProducts();
+        tests.greatestTreeFirst();
+        tests.greatestTreeFirstBeyondLong();
+        tests.firstPlaceOfTheTaken();
         tests.normalTrees();
         tests.confluentWithoutPlaces();
         tests.confluentAtTheEndsOfLong();
@@ -496,6 +499,60 @@ public final class SumEdgeTests {
                 }
             }
         }
+    }
+
+    /**
+     * Two pairs under one root, each of which comes in five steps to 99 to the 5th of the lowest:
+     * both together are beyond a long. Both trees come to them first, and take one another away.
+     */
+    private void greatestTreeFirst() {
+        String[] pairs = {"39199", "39099", "29399", "29299", "29199", "29099"};
+        for (int less = 0; less <= 1; less++) {
+            Operadry x = Made.with(2, 2, 2, 2);
+            x.rule(Check.tree(x, "39399"), Check.sum(x, "1 39199"));
+            x.rule(Check.tree(x, "39299"), 0);
+            for (int rule = 0; rule < 5; rule++) {
+                x.rule(Check.tree(x, pairs[rule]), Check.sum(x, "99 " + pairs[rule + 1]));
+            }
+            int sum = Check.sum(x, "1 03939939199", (less - 1) + " 03929939199");
+            if (less == 0) {
+                check.due("16: both come to one tree before that is taken", x.reduce(sum), 0);
+                check.due("12: both come to nothing", x.terms(sum), 0);
+            } else {
+                refuse("16: the greater one alone", ARITHMETIC, () -> x.reduce(sum));
+                check.due("12: as before", x.terms(sum), 1);
+            }
+        }
+    }
+
+    /** The lowest tree goes away, but not before all that comes to it is there. */
+    private void greatestTreeFirstBeyondLong() {
+        Operadry x = Made.ends();
+        x.rule(Check.tree(x, "09099"), x.sum());
+        x.rule(Check.tree(x, "29099"), Check.sum(x, "1 09099"));
+        int above = Check.tree(x, "29" + "09".repeat(5) + "9");
+        x.add(Made.GREATEST, above, 1);
+        refuse("16: beyond a long before it goes away", ARITHMETIC,
+                () -> x.reduce(Made.GREATEST));
+        check.due("12: as before", x.terms(Made.GREATEST), 2);
+        check.due("13: as before", x.amount(Made.GREATEST, 0), 1);
+        check.due("13: as before", x.amount(Made.GREATEST, 1), Long.MAX_VALUE);
+        x.add(Made.GREATEST, above, -2);
+        check.due("16: less than it before it goes away", x.reduce(Made.GREATEST), 0);
+    }
+
+    /** Three places at one operation: from the right, or the middle, another tree would come. */
+    private void firstPlaceOfTheTaken() {
+        Operadry x = Made.with(2, 3);
+        x.rule(Check.tree(x, "109999"), Check.sum(x, "3 091999"));
+        x.rule(Check.tree(x, "190999"), Check.sum(x, "5 091999"));
+        x.rule(Check.tree(x, "199099"), Check.sum(x, "7 091999"));
+        int three = Check.sum(x, "1 1099099099");
+        x.reduce(three);
+        check.dueText("16: from the left", Check.terms(x, three), "[105 0909091999]");
+        int two = Check.sum(x, "1 19099099");
+        x.reduce(two);
+        check.dueText("16: the middle, then the right", Check.terms(x, two), "[35 09091999]");
     }
 
     private void normalTrees() {
