@@ -38,6 +38,7 @@ public final class SumEdgeTests {
         tests.noTwoOfOneLeftSide();
         tests.eightRules();
         tests.widestLeftSide();
+        tests.sixteenOperationsOnOneWay();
         tests.theSumAsItIsThen();
         tests.reducingNothing();
         tests.reducingToTheLeastLong();
@@ -320,6 +321,21 @@ public final class SumEdgeTests {
             x.reduce(sum);
             check.dueText("16: at input " + input, Check.terms(x, sum), "[1 " + due + "]");
         }
+    }
+
+    /** Eight wide operations come to sixteen narrow ones, and then the last of each four changes. */
+    private void sixteenOperationsOnOneWay() {
+        Operadry x = Made.with(2, 3, 2);
+        x.rule(Check.tree(x, "1991999"), Check.sum(x, "1 090909299"));
+        int sum = Check.sum(x, "3 " + "199".repeat(8) + "9");
+        x.reduce(sum);
+        check.dueText("16: on one way", Check.terms(x, sum), "[3 " + "09090929".repeat(4) + "9]");
+        x.rule(Check.tree(x, "09299"), Check.sum(x, "5 09099"));
+        x.reduce(sum);
+        check.dueText("16: up to its end", Check.terms(x, sum),
+                "[" + 3 * 5 * 5 * 5 * 5 + " " + "09".repeat(16) + "9]");
+        x.rule(Check.tree(x, "09099"), x.sum());
+        check.due("16: and away", x.reduce(sum), 0);
     }
 
     private void theSumAsItIsThen() {
