@@ -403,10 +403,8 @@ public final class MethodEdgeTests {
 
     /** Each of the weights up to the order is due: one alone that is not lowers it. */
     private void ordersThatFailByOneShrub() {
-        check.due("33: the cherry alone fails", method(2, 0, 1, 0, 1, 1, 2, 0, 1, 0, 1, 1, 1)
-                .order(), 2);
-        check.due("33: the way of three alone fails", method(2, 0, 1, 0, 1, 2, 3, 0, 1, 1, 4, 3, 4)
-                .order(), 2);
+        failBy(2, "000", method(2, 1, 3, 0, 1, 1, 2, 0, 1, 0, 1, 1, 1));
+        failBy(2, "001", method(2, 0, 1, 0, 1, 2, 3, 0, 1, 1, 4, 3, 4));
         Operadry x = method(4, 0, 1, 0, 1, 0, 1, 0, 1, 1, 2, 0, 1, 0, 1, 0, 1, 0, 1, 1, 2, 0, 1,
                 0, 1, 0, 1, 0, 1, 1, 1, 0, 1, 1, 6, 1, 3, 1, 3, 1, 6);
         check.due("33: the four weights of old", x.order(), 4);
@@ -439,21 +437,25 @@ public final class MethodEdgeTests {
 
     /** Of the shrubs with four knots the weight of one alone is not due. */
     private void ordersThatFailByOneOfFourKnots() {
-        failBy("0000", ahead(-1, 2, 7, 4, -3, 4, 1, 6, 1, 9, 2, 9, 1, 3, -1, 18, 2, 9, 1, 2));
-        failBy("0001", ahead(-1, 2, 9, 2, -5, 2, -1, 1, -1, 15, 1, 15, 13, 6, -26, 15, 1, 15, 1,
-                2));
-        failBy("0011", ahead(-1, 1, 3, 2, -1, 2, 3, 8, 0, 1, 1, 8, 1, 6, 0, 1, 1, 6, 2, 3));
-        failBy("0012", ahead(-1, 2, 2, 1, -1, 1, 1, 4, 1, 12, 1, 6, 1, 6, 0, 1, 1, 6, 2, 3));
+        failBy(3, "0000", ahead(-1, 2, 7, 4, -3, 4, 1, 6, 1, 9, 2, 9, 1, 3, -1, 18, 2, 9, 1, 2));
+        failBy(3, "0001", ahead(-1, 2, 9, 2, -5, 2, -1, 1, -1, 15, 1, 15, 13, 6, -26, 15, 1, 15,
+                1, 2));
+        failBy(3, "0011", ahead(-1, 1, 3, 2, -1, 2, 3, 8, 0, 1, 1, 8, 1, 6, 0, 1, 1, 6, 2, 3));
+        failBy(3, "0012", ahead(-1, 2, 2, 1, -1, 1, 1, 4, 1, 12, 1, 6, 1, 6, 0, 1, 1, 6, 2, 3));
     }
 
-    private void failBy(String row, Operadry x) {
-        check.due("33: " + row + " alone fails", x.order(), 3);
+    /** Of the shrubs with one knot more than the order, and with fewer, one alone fails. */
+    private void failBy(int order, String row, Operadry x) {
+        check.due("33: " + row + " alone fails", x.order(), order);
         String[] all = {"0", "00", "000", "001", "0000", "0001", "0011", "0012"};
         for (String other : all) {
             int shrub = Check.shrub(x, other);
-            boolean isDue = x.weight(shrub, true) == 1
-                    && x.weight(shrub, false) == x.density(shrub);
-            check.due("32: " + other + ", where " + row + " fails", isDue, !other.equals(row));
+            if (other.length() <= order + 1) {
+                boolean isDue = x.weight(shrub, true) == 1
+                        && x.weight(shrub, false) == x.density(shrub);
+                check.due("32: " + other + ", where " + row + " fails", isDue,
+                        !other.equals(row));
+            }
         }
     }
 }
